@@ -569,9 +569,12 @@ public final class BetweenThem {
 
     private int ranIfStopped(int w, int d, int s) {
         Scene then = foreseen();
-        then.passMany(world.plan, s);
-        then.walkers[w].walks = false;
-        then.passMany(world.plan, LEAST_SECONDS - s);
+        for (int i = 0; i < LEAST_SECONDS; i++) {
+            if (i == s) {
+                then.walkers[w].walks = false;
+            }
+            then.pass(world.plan);
+        }
         return then.dogs[d].ran - world.scene.dogs[d].ran;
     }
 
@@ -580,9 +583,13 @@ public final class BetweenThem {
         if (tape.length % 2 != 0 || pairs < 1 || pairs > MOST_PRINTS) {
             return NONE;
         }
+        int latest = 0;
+        for (int i = 0; i < pairs; i++) {
+            latest = Math.max(latest, tape.at(2 * i));
+        }
         int bits = (1 << world.plan.walkers) - 1;
         Scene then = foreseen();
-        for (int after = 0; after <= 255; after++) {
+        for (int after = 0; after <= latest; after++) {
             for (int i = 0; i < pairs; i++) {
                 if (tape.at(2 * i) == after) {
                     bits &= standingBy(then, tape.at(2 * i + 1), after);
@@ -688,19 +695,19 @@ public final class BetweenThem {
         return isDog(d) && world.plan.walkers > 1;
     }
 
-    /** In a round each is seen once: whom a dog chooses depends on where it is, or on the order of all. */
+    /**
+     * Ahead of the round it may see some whom it never sees again, each of them once at most. In the round
+     * each is seen once: whom it chooses depends on where it is alone, or on the order in which it saw all.
+     */
     private int roundBits(int d) {
         Scene quiet = foreseenQuiet();
         Dog dog = quiet.dogs[d];
-        int law = world.plan.law[d];
-        int time = ALL_SECONDS;
-        for (int i = 0; i < 2 * MOST_WALKERS; i++) {
-            quiet.leap(world.plan.walkers, dog, law, time + i);
-        }
-        time += 2 * MOST_WALKERS;
         int bits = 0;
-        for (int i = 0; i < MOST_WALKERS; i++) {
-            bits |= 1 << quiet.leap(world.plan.walkers, dog, law, time + i);
+        for (int i = 0; i < 3 * MOST_WALKERS; i++) {
+            int whom = quiet.leap(world.plan.walkers, dog, world.plan.law[d], ALL_SECONDS + i);
+            if (i >= 2 * MOST_WALKERS && whom != NONE) {
+                bits |= 1 << whom;
+            }
         }
         return bits;
     }
@@ -1868,7 +1875,9 @@ public final class BetweenThem {
                 if (number[i] > ALL_SECONDS - scene.second) {
                     return TOO_FEW_SECONDS;
                 }
-                scene.passMany(plan, number[i]);
+                for (int n = 0; n < number[i]; n++) {
+                    scene.pass(plan);
+                }
                 return 0;
             }
             int whyNot = scene.whyNot(deed[i], number[i]);
