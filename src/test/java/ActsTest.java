@@ -5,6 +5,7 @@ public final class ActsTest {
         wrongOnes();
         undoing();
         undoingLogs();
+        undoingTurns();
         draws();
         wrongDraws();
         images();
@@ -105,6 +106,27 @@ public final class ActsTest {
         Check.due("back", x.walker(1, 2), 1);
         Check.due("none", x.undo(), -1);
         Check.due("what was logged stays", x.logged(2), 5);
+    }
+
+    /** The latest turns and who moved come back too. */
+    private static void undoingTurns() {
+        String text = "line 50;walker a 0 3;walker b 5 1;walker c 40 7 back;dog rex a 20 0 other;dog pip b 30 0 last;";
+        BetweenThem x = Check.on(text);
+        BetweenThem y = Check.on(text);
+        x.seconds(5);
+        y.seconds(5);
+        Check.sentence(x, "stands");
+        Check.sentence(y, "stands");
+        x.image(1);
+        x.seconds(60);
+        Check.due("all stand at an edge", x.told(-1), 3);
+        Check.due("undo", x.undo(), 1);
+        Agree.alike("undone", x, y);
+        Check.due("who stood", x.told(-1), y.told(-1));
+        x.drawn(60, 3);
+        Check.due("restore", x.restore(1), true);
+        Agree.alike("restored", x, y);
+        Check.due("who stood", x.told(-1), y.told(-1));
     }
 
     /** The draws by hand, from the words of the document. */

@@ -8,6 +8,7 @@ public final class BeachTextTest {
         tooMany();
         tooLong();
         stays();
+        anew();
         Check.finish();
     }
 
@@ -167,5 +168,27 @@ public final class BeachTextTest {
         Check.due("leaves the kind", x.fault(), 2);
         Check.due("a log", x.log(0), -1);
         Check.due("has none", x.fault(), 0);
+    }
+
+    /** A beach told behind another one is as on a new object. */
+    private static void anew() {
+        String full = "line 100;body 2;keeps 3;walker a 0 1;walker b 9 2;walker c 90 0;"
+                + "dog d b 9 1 near;tires d 2;dog e c 30 3 last;tires e 1;";
+        String bare = "walker b 9 2;walker a 0 1;dog e b 5 0 other;dog d a 6 0 call;";
+        for (String text : new String[] {full, bare, "", "walker a 1 1;walker b 2 2;"}) {
+            BetweenThem x = Check.on(full);
+            x.drawn(60, 5);
+            x.throwStick(1);
+            x.call(1);
+            Check.beach(x, text);
+            Agree.alike("anew: " + text, x, Check.on(text));
+            Check.due("nobody moved", Check.sentence(x, "stands"), 1);
+            Check.due("nobody moved", x.told(-1), x.count(0));
+            Check.due("nothing said", x.dearest(), -1);
+            BetweenThem y = Check.on(text);
+            x.seconds(33);
+            y.seconds(33);
+            Agree.alike("anew and 33: " + text, x, y);
+        }
     }
 }

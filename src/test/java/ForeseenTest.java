@@ -9,8 +9,10 @@ public final class ForeseenTest {
         meetingLate();
         running();
         straying();
+        strayingLate();
         leastByHand();
         leastByLogs();
+        leastAtTheEdges();
         oddsByDraws();
         Check.finish();
     }
@@ -112,6 +114,24 @@ public final class ForeseenTest {
         Check.due("none is left", end.strays(), -1);
     }
 
+    /** The 200th second from now on is looked at, the one behind it is not. */
+    private static void strayingLate() {
+        String beach = "line 900;keeps 99;walker a 0 0;walker b 40 1;dog d a 9 0 other;";
+        BetweenThem x = Check.on(beach);
+        while (x.now(3) == 0 && x.now(0) < 600) {
+            x.seconds(1);
+        }
+        int first = x.now(0) - 1;
+        Check.due("late enough for the test", first > 210, true);
+        BetweenThem y = Check.on(beach);
+        while (y.now(0) < first - 200) {
+            y.seconds(1);
+        }
+        Check.due("not so soon", y.strays(), -1);
+        y.seconds(1);
+        Check.due("the 200th", y.strays(), first);
+    }
+
     private static void leastByHand() {
         // b stands; a goes away from the dog at b, which is to run to a and back
         BetweenThem x = Check.on("line 900;walker a 10 9;walker b 0 0;dog d b 30 0 other;");
@@ -146,7 +166,7 @@ public final class ForeseenTest {
                     int best = -1;
                     int bestRan = 0;
                     for (int s = 0; s <= 30; s++) {
-                        int ran = ranIfStopped(gone, w, d, s);
+                        int ran = ranIfStopped(BEACH, gone, w, d, s);
                         if (best < 0 || ran < bestRan) {
                             best = s;
                             bestRan = ran;
@@ -159,8 +179,24 @@ public final class ForeseenTest {
         }
     }
 
-    private static int ranIfStopped(int gone, int w, int d, int s) {
-        BetweenThem y = Check.on(BEACH);
+    private static void leastAtTheEdges() {
+        BetweenThem x = Check.on("walker a 5 5 back;walker b 0 0;dog d b 9 0 other;");
+        Check.due("behind one second", x.least(0, 0), 1);
+        Check.due("not a step", x.runs(0, 0), 0);
+        String beach = "walker a 160 5 back;walker b 0 0;dog d b 30 0 other;";
+        int best = 0;
+        for (int s = 1; s <= 30; s++) {
+            if (ranIfStopped(beach, 0, 0, 0, s) < ranIfStopped(beach, 0, 0, 0, best)) {
+                best = s;
+            }
+        }
+        Check.due("31 would be less", ranIfStopped(beach, 0, 0, 0, 31) < ranIfStopped(beach, 0, 0, 0, best), true);
+        Check.due("30 at most", Check.on(beach).least(0, 0), best);
+        Check.due("30 is the least of them", best, 30);
+    }
+
+    private static int ranIfStopped(String beach, int gone, int w, int d, int s) {
+        BetweenThem y = Check.on(beach);
         for (int i = 0; i < gone; i++) {
             y.seconds(1);
         }

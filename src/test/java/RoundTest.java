@@ -110,6 +110,8 @@ public final class RoundTest {
         Check.due("empty", x.laws(), -1);
         Check.due("one", laws(x, 1), -1);
         Check.due("alike", laws(x, 0, 1, 1), -1);
+        Check.due("alike", laws(x, 1, 1), -1);
+        Check.due("alike", laws(x, 1, 1, 2), -1);
         Check.due("no walker", laws(x, 0, 3), -1);
         Check.due("no walker", laws(x, 200, 0), -1);
         Check.due("41", laws(x, row(41, 3)), -1);
