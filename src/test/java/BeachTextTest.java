@@ -178,6 +178,10 @@ public final class BeachTextTest {
         for (String text : new String[] {full, bare, "", "walker a 1 1;walker b 2 2;"}) {
             BetweenThem x = Check.on(full);
             x.drawn(60, 5);
+            for (int i = 0; i < 20 && x.dog(1, 5) == 0; i++) {
+                x.seconds(1);
+            }
+            Check.due("it turns in the test", x.dog(1, 5) > 0, true);
             x.throwStick(1);
             x.call(1);
             Check.beach(x, text);
