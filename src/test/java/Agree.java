@@ -29,6 +29,27 @@ final class Agree {
         }
     }
 
+    /** What the latest calls told, the SENTENCE and all that can be undone: nothing is left to undo then. */
+    static void alikeToTheLast(String what, BetweenThem x, BetweenThem y) {
+        Check.due(what + ": tape", x.count(5), y.count(5));
+        Check.due(what + ": fault", x.fault(), y.fault());
+        for (int i = 0; i < 4; i++) {
+            Check.due(what + ": logged " + i, x.logged(i), y.logged(i));
+        }
+        for (int k = -1; k < 6; k++) {
+            Check.due(what + ": told " + k, x.told(k), y.told(k));
+        }
+        for (int i = 0; i < 9; i++) {
+            Check.due(what + ": undo", x.undo(), y.undo());
+            Check.due(what + ": undone, second", x.now(0), y.now(0));
+            Check.due(what + ": undone, walking", x.now(4), y.now(4));
+        }
+        for (int k = 0; k < 2; k++) {
+            Check.due(what + ": image " + k, x.restore(k), y.restore(k));
+            Check.due(what + ": restored, second", x.now(0), y.now(0));
+        }
+    }
+
     private Agree() {
     }
 }

@@ -4,12 +4,18 @@ import java.util.NoSuchElementException;
 final class Check {
     private static int wrong = 0;
     private static int asked = 0;
+    private static String sentence = "";
+
+    /** The sentence of the document that the answers behind it are asked for. */
+    static void about(String words) {
+        sentence = "[" + words + "] ";
+    }
 
     static void due(String what, long got, long want) {
         asked++;
         if (got != want) {
             wrong++;
-            System.out.println(what + " answered " + got + ", due is " + want);
+            System.out.println(sentence + what + " answered " + got + ", due is " + want);
         }
     }
 
@@ -26,7 +32,7 @@ final class Check {
         try {
             long got = call.answer();
             wrong++;
-            System.out.println(what + " answered " + got + ", due is NoSuchElementException");
+            System.out.println(sentence + what + " answered " + got + ", due is NoSuchElementException");
         } catch (NoSuchElementException e) {
             return;
         }
@@ -85,11 +91,18 @@ final class Check {
         return x;
     }
 
+    static void pass(BetweenThem x, int n) {
+        for (int left = n; left > 0; left -= Math.min(left, 60)) {
+            x.seconds(Math.min(left, 60));
+        }
+    }
+
     static String blanks(int n) {
         return " ".repeat(n);
     }
 
     static void finish() {
+        sentence = "";
         System.out.println(asked + " asked, " + wrong + " wrong");
         if (wrong != 0) {
             System.exit(1);

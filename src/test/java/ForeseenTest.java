@@ -117,19 +117,22 @@ public final class ForeseenTest {
     /** The 200th second from now on is looked at, the one behind it is not. */
     private static void strayingLate() {
         String beach = "line 900;keeps 99;walker a 0 0;walker b 40 1;dog d a 9 0 other;";
-        BetweenThem x = Check.on(beach);
-        while (x.now(3) == 0 && x.now(0) < 600) {
-            x.seconds(1);
+        int first = 0;
+        while (hanging(beach, first + 1) == 0 && first < 600) {
+            first++;
         }
-        int first = x.now(0) - 1;
         Check.due("late enough for the test", first > 210, true);
         BetweenThem y = Check.on(beach);
-        while (y.now(0) < first - 200) {
-            y.seconds(1);
-        }
+        Check.pass(y, first - 200);
         Check.due("not so soon", y.strays(), -1);
         y.seconds(1);
         Check.due("the 200th", y.strays(), first);
+    }
+
+    private static int hanging(String beach, int second) {
+        BetweenThem x = Check.on(beach);
+        Check.pass(x, second);
+        return x.now(3);
     }
 
     private static void leastByHand() {

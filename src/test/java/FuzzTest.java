@@ -13,8 +13,10 @@ public final class FuzzTest {
         "pip", "0", "1", "9", "20", "100", "999", "1000", "$", " ", "\n", "zoe"};
 
     public static void main(String[] args) {
-        for (int i = 0; i < 400; i++) {
+        for (int i = 0; i < 1600; i++) {
             wild(new Random(i));
+        }
+        for (int i = 0; i < 400; i++) {
             foreseen(new Random(1000 + i));
         }
         Check.finish();
@@ -58,7 +60,7 @@ public final class FuzzTest {
 
     private static void wild(Random r) {
         BetweenThem x = new BetweenThem();
-        for (int i = 0; i < 500; i++) {
+        for (int i = 0; i < 110; i++) {
             int which = r.nextInt(60);
             try {
                 if (which < 43) {
