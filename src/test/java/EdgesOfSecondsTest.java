@@ -3,6 +3,7 @@ public final class EdgesOfSecondsTest {
     public static void main(String[] args) {
         sixHundred();
         allWalkAtFirst();
+        dogByDog();
         stayingAtEdges();
         hangingDoNotGo();
         turning();
@@ -63,6 +64,28 @@ public final class EdgesOfSecondsTest {
         Check.due("no draws", x.drawn(60, 1), 0);
         Check.due("still", x.walker(0, 6), 600);
         Check.due("the first", new BetweenThem().now(0), 0);
+    }
+
+    private static void dogByDog() {
+        Check.about("first each WALKER .. Then DOG by DOG");
+        String men = "walker a 0 0;walker b 3 0;walker c 1 0;";
+        BetweenThem x = Check.on(men + "dog d a 3 0 other;dog e a 3 0 near;");
+        x.throwStick(1);
+        x.seconds(1);
+        Check.due("d took the stick", x.dog(0, 6), 1);
+        Check.due("e chose behind it", x.dog(1, 6), 2);
+        BetweenThem y = Check.on(men + "dog e a 3 0 near;dog d a 2 0 other;");
+        y.throwStick(1);
+        y.seconds(1);
+        Check.due("e took the stick", y.dog(0, 6), 1);
+        Check.due("d goes to b by its law", y.dog(1, 4), 1);
+        BetweenThem z = Check.on("walker a 0 0;walker b 4 1 back;dog d a 3 0 other;");
+        z.seconds(1);
+        Check.due("he came nearer first", z.dog(0, 3), 1);
+        Check.due("there", z.turnedAt(0, 0), 3);
+        BetweenThem away = Check.on("walker a 0 0;walker b 3 1;dog d a 3 0 other;");
+        away.seconds(1);
+        Check.due("he went away first", away.dog(0, 3), 0);
     }
 
     private static void allWalkAtFirst() {
