@@ -635,6 +635,14 @@ public final class EdgesOfSecondsTest {
         for (int d : new int[] {-1, 1, 2, Integer.MIN_VALUE, Integer.MAX_VALUE}) {
             Check.due("no such one " + d, x.next(d), -1);
         }
+        for (String law : new String[] {"other", "near", "last", "call"}) {
+            BetweenThem y = Check.on("walker a 0 0;walker b 50 0;walker c 60 0;dog d a 5 0 " + law + ";");
+            for (int i = 0; i < 9; i++) {
+                y.seconds(1);
+                Check.due(law + ": on its way to b", y.dog(0, 4), 1);
+                Check.due(law + ": it would choose b again", y.next(0), 1);
+            }
+        }
         Check.due("nobody", Check.on("walker a 0 0;dog d a 5 5 other;").next(0), -1);
         Check.due("none at all", new BetweenThem().next(0), -1);
     }

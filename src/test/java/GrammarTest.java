@@ -167,6 +167,13 @@ public final class GrammarTest {
         bad("line 5;walker w 7 back;", 16, 2);
         bad("line 5;walker w 6 10;", 16, 2);
         bad("walker w 0 10 back;", 11, 2);
+        String two = "line 5;walker a 1 1;walker b 2 2;";
+        bad(two + "walker w 7;", two.length() + 9, 2);
+        bad(two + "walker w 7 7;", two.length() + 9, 2);
+        bad(two + "walker w 1;", two.length() + 10, 1);
+        bad(two + "walker w;", two.length() + 8, 1);
+        bad(two + "dog e a 0 near;", two.length() + 8, 2);
+        bad(two + "dog e a 5;", two.length() + 9, 1);
         bad("walker w 0 0;dog e w 0 other;", 21, 2);
         bad("walker w 0 0;dog e w 0 0 other;", 21, 2);
         bad("walker w 0 0;dog e w 31 10 here;", 21, 2);
